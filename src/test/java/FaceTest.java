@@ -2,6 +2,9 @@ import java.lang.reflect.Constructor;
 import java.lang.reflect.Field;
 import java.lang.reflect.Method;
 import java.lang.reflect.Modifier;
+import java.util.ArrayList;
+import java.util.Arrays;
+import java.util.List;
 import java.util.Set;
 import java.util.TreeSet;
 
@@ -28,54 +31,68 @@ public final class FaceTest {
   };
 
   public static void main(String[] args) {
-    Class<?> face = SelfOpener.class;
-    Check.due("public", Modifier.isPublic(face.getModifiers()), true);
-    Check.due("final", Modifier.isFinal(face.getModifiers()), true);
-    Constructor<?>[] makers = face.getDeclaredConstructors();
-    Check.due("constructors", makers.length, 1);
-    Check.due("constructor is public", Modifier.isPublic(makers[0].getModifiers()), true);
-    Check.due("constructor's parameters", makers[0].getParameterCount(), 0);
-    checkMethods(face);
-    for (Field f : face.getDeclaredFields()) {
-      Check.due("private field " + f.getName(), Modifier.isPrivate(f.getModifiers()), true);
-    }
-    for (Class<?> inside : face.getDeclaredClasses()) {
-      Check.due("class inside is not public " + inside, Modifier.isPublic(inside.getModifiers()), false);
-    }
-    Check.end();
+    Check.run(FaceTest.class);
   }
 
-  private static void checkMethods(Class<?> face) {
-    Set<String> want = new TreeSet<>(java.util.Arrays.asList(FACE));
+  static void classIsPublicAndFinal() {
+    Check.due("public", Modifier.isPublic(SelfOpener.class.getModifiers()), true);
+    Check.due("final", Modifier.isFinal(SelfOpener.class.getModifiers()), true);
+  }
+
+  static void oneConstructor() {
+    Constructor<?>[] makers = SelfOpener.class.getDeclaredConstructors();
+    Check.due("constructors", makers.length, 1);
+    Check.due("it is public", Modifier.isPublic(makers[0].getModifiers()), true);
+    Check.due("its parameters", makers[0].getParameterCount(), 0);
+  }
+
+  static void noOpenField() {
+    for (Field f : SelfOpener.class.getDeclaredFields()) {
+      Check.due("private field " + f.getName(), Modifier.isPrivate(f.getModifiers()), true);
+    }
+  }
+
+  static void noPublicClassInside() {
+    for (Class<?> inside : SelfOpener.class.getDeclaredClasses()) {
+      Check.due("open class " + inside, Modifier.isPublic(inside.getModifiers()), false);
+    }
+  }
+
+  static void methodsAreThoseOfTheDocument() {
+    Set<String> want = new TreeSet<>(Arrays.asList(FACE));
     Set<String> got = new TreeSet<>();
-    Set<String> open = new TreeSet<>();
-    for (Method m : face.getDeclaredMethods()) {
+    for (Method m : SelfOpener.class.getDeclaredMethods()) {
       if (!Modifier.isPrivate(m.getModifiers())) {
         got.add(told(m));
-        open.add(m.getName());
+        Check.due("public " + m.getName(), Modifier.isPublic(m.getModifiers()), true);
       }
     }
     if (!got.equals(want)) {
       Check.wrong("the face is " + got);
     }
-    for (Method m : face.getDeclaredMethods()) {
+  }
+
+  static void noPrivateMethodWithAPublicName() {
+    Set<String> open = new TreeSet<>();
+    for (String method : FACE) {
+      open.add(method.substring(method.indexOf(' ') + 1, method.indexOf('(')));
+    }
+    for (Method m : SelfOpener.class.getDeclaredMethods()) {
       if (Modifier.isPrivate(m.getModifiers()) && open.contains(m.getName())) {
-        Check.wrong("private method with a public name: " + m.getName());
+        Check.wrong("private method " + m.getName());
       }
     }
   }
 
   private static String told(Method m) {
-    StringBuilder text = new StringBuilder();
-    text.append(m.getReturnType().getSimpleName()).append(' ').append(m.getName()).append('(');
-    Class<?>[] parameters = m.getParameterTypes();
-    for (int i = 0; i < parameters.length; i++) {
-      text.append(i == 0 ? "" : ",").append(parameters[i].getSimpleName());
+    List<String> parameters = new ArrayList<>();
+    for (Class<?> p : m.getParameterTypes()) {
+      parameters.add(p.getSimpleName());
     }
-    java.util.List<String> thrown = new java.util.ArrayList<>();
+    List<String> thrown = new ArrayList<>();
     for (Class<?> e : m.getExceptionTypes()) {
       thrown.add(e.getSimpleName());
     }
-    return text.append(") ").append(thrown).toString();
+    return m.getReturnType().getSimpleName() + " " + m.getName() + "(" + String.join(",", parameters) + ") " + thrown;
   }
 }
