@@ -1,7 +1,12 @@
 import java.io.IOException;
 import java.io.UncheckedIOException;
+import java.lang.reflect.Field;
+import java.lang.reflect.Method;
+import java.lang.reflect.Modifier;
 import java.nio.file.Files;
 import java.nio.file.Path;
+import java.util.ArrayList;
+import java.util.Arrays;
 import java.util.List;
 import java.util.regex.Matcher;
 import java.util.regex.Pattern;
@@ -15,6 +20,11 @@ public final class LanguageTest {
     "\\bboolean equals\\(", "\\bObject\\b", "\\bprotected\\b"
   };
   private static final String IMPORT = "import java\\.util\\.(NoSuchElementException|ArrayList|List|Arrays|Iterator);";
+
+  private static final String THROW = "throw new (IllegalState|IllegalArgument|IndexOutOfBounds|Arithmetic"
+      + "|UnsupportedOperation|NoSuchElement|Runtime)Exception\\((\"[^\"]*\")?\\);";
+  private static final List<Class<?>> STATIC_TYPES = List.of(int.class, long.class, boolean.class, char.class,
+      String.class, int[].class, long[].class, char[].class, byte[].class);
 
   public static void main(String[] args) {
     Check.run(LanguageTest.class);
@@ -63,6 +73,55 @@ public final class LanguageTest {
       }
       if (code(line).matches("  (  )?}") && number - begun > 60 && begun > 0) {
         Check.wrong("the method at line " + begun + " is long");
+      }
+    }
+  }
+
+  private static List<Class<?>> classes() {
+    List<Class<?>> all = new ArrayList<>(Arrays.asList(SelfOpener.class.getDeclaredClasses()));
+    all.add(SelfOpener.class);
+    return all;
+  }
+
+  // Rule 5: "Static fields are final: constants of int, long, boolean, char or String, ... arrays of int, ...".
+  static void staticFieldsAreConstants() {
+    for (Class<?> c : classes()) {
+      for (Field f : c.getDeclaredFields()) {
+        boolean isConstant = Modifier.isFinal(f.getModifiers()) && STATIC_TYPES.contains(f.getType());
+        if (Modifier.isStatic(f.getModifiers()) && !isConstant) {
+          Check.wrong("static " + f);
+        }
+      }
+    }
+  }
+
+  // Rule 6: "throw new E() or throw new E("a written text")".
+  static void throwsOnlyWhatMayBeThrown() {
+    for (String line : lines()) {
+      if (code(line).matches(".*\\bthrow\\b.*") && !code(line).strip().matches(THROW)) {
+        Check.wrong(line);
+      }
+    }
+  }
+
+  // Rule 1: "the classes inside it, which are private or package-visible and static".
+  static void classesInsideAreStatic() {
+    for (Class<?> c : SelfOpener.class.getDeclaredClasses()) {
+      Check.due("static " + c, Modifier.isStatic(c.getModifiers()), true);
+    }
+  }
+
+  // Rule 11: "at most seven parameters", "at most some twelve classes, and a class some twenty fields".
+  static void nothingIsTooLarge() {
+    Check.due("few classes", classes().size() <= 12, true);
+    for (Class<?> c : classes()) {
+      int fields = 0;
+      for (Field f : c.getDeclaredFields()) {
+        fields += Modifier.isStatic(f.getModifiers()) ? 0 : 1;
+      }
+      Check.due("few fields in " + c, fields <= 20, true);
+      for (Method m : c.getDeclaredMethods()) {
+        Check.due("few parameters of " + m, m.getParameterCount() <= 7, true);
       }
     }
   }
